@@ -177,7 +177,8 @@ public final class FrameTables {
     }
 
     public int letter(int i) {
-        return i < 0 || i >= text.length() ? UNKNOWN : text.signAt(i);
+        int found = text.signAt(i);
+        return found == NONE ? UNKNOWN : found;
     }
 
     public int touched(int frame, int i) {
@@ -440,8 +441,8 @@ public final class FrameTables {
             return lostSigns;
         }
 
-        char signAt(int i) {
-            return signs[i];
+        int signAt(int i) {
+            return i >= 0 && i < length ? signs[i] : NONE;
         }
 
         void add(char sign) {
@@ -528,25 +529,21 @@ public final class FrameTables {
                 if (!nextWord()) {
                     return true;
                 }
-                if (!wordIs(READS_WORD) || !takeReader(draft, draft.size())) {
+                boolean isReads = wordIs(READS_WORD);
+                int node = nextNumber();
+                int timeout = nextNumber();
+                if (!isReads || !mayRead(draft, node, timeout)) {
                     return false;
                 }
+                draft.setTimeout(draft.size(), node, timeout);
             }
             return false;
         }
 
         // A TIME-OUT of 0 is never written, since such a node does not read: here it is none.
-        private boolean takeReader(Table draft, int frame) {
-            int node = nextNumber();
-            int timeout = nextNumber();
-            if (!draft.has(frame) || !isNode(node) || node == draft.senderOf(frame)) {
-                return false;
-            }
-            if (timeout < 1 || timeout > MOST_TIMEOUT) {
-                return false;
-            }
-            draft.setTimeout(frame, node, timeout);
-            return true;
+        private boolean mayRead(Table draft, int node, int timeout) {
+            return isNode(node) && node != draft.senderOf(draft.size())
+                    && timeout >= 1 && timeout <= MOST_TIMEOUT;
         }
 
         private boolean nextWord() {

@@ -117,6 +117,10 @@ public final class SpreadTest {
         x.frame(1, 2, 50);
         Expect.due("as it is", x.offset(0), 2);
         Expect.due("row", row(x), "0 1 0");
+        x.print();
+        x.read();
+        Expect.due("no row for what was read", x.offset(2), 3);
+        Expect.due("nothing changes", row(x), "0 0 0");
     }
 
     /**

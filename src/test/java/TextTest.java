@@ -253,6 +253,9 @@ public final class TextTest {
         Expect.due("after a wrong one a right one", Expect.readText(x, "frame 3 3 3 3"), 1);
         x.print();
         Expect.due("nothing is left of the wrong one", Expect.letters(x), "frame 3 3 3 3\n");
+        Expect.due("after a right one a wrong one", Expect.readText(x, "frame 4 4 4 4\nx"), -3);
+        x.print();
+        Expect.due("the right one stays", Expect.letters(x), "frame 3 3 3 3\n");
     }
 
     private static void readReplaces() {
