@@ -621,11 +621,10 @@ public final class FrameTables {
             int offset = nextOffsets[place];
             nextOffsets[place]++;
             int peak = Math.max(peaksBefore[place], mostBeginsWith(place, offset));
-            // Judged once, when it is put: a row that was gone on with stays open when a better one is found.
             if (peak < bestPeak) {
                 goOn(offset, peak);
             }
-            leaveSpentPlaces();
+            leaveClosedPlaces();
         }
 
         void giveBestRowTo(Table table) {
@@ -685,13 +684,18 @@ public final class FrameTables {
             }
         }
 
-        private void leaveSpentPlaces() {
-            while (place >= 0 && nextOffsets[place] >= strides[place]) {
+        private void leaveClosedPlaces() {
+            while (place >= 0 && isClosed(place)) {
                 place--;
                 if (place >= 0) {
                     addBegins(place, nextOffsets[place] - 1, -1);
                 }
             }
+        }
+
+        /** A better row may have been found since the row before this place was gone on with: it is judged again. */
+        private boolean isClosed(int i) {
+            return nextOffsets[i] >= strides[i] || peaksBefore[i] >= bestPeak;
         }
 
         /** The most begins at one tick of this place's FRAME, if it were put to the OFFSET too. */

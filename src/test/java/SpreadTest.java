@@ -12,7 +12,8 @@ public final class SpreadTest {
         framesThatDoNotCount();
         exactOnlyUntilAChange();
         olderOffsetsAreNoBestRow();
-        openRowsGoOn();
+        openRowsAreLeft();
+        severalPlacesAreLeftAtOnce();
         leastPeakAndFirstRow();
         againstAPlainSearch();
         Expect.end();
@@ -124,16 +125,41 @@ public final class SpreadTest {
     }
 
     /**
-     * Periods 2, 2, 4, 4: in step 9 the row 0 0 1 1 has peak 2, as has the row 0 0 already. It was
-     * gone on with before, so its other rows are still put: the search takes 26 steps, not 20.
+     * Periods 2, 4, 20: the rows put are 0, 0 0, 0 0 0 (peak 3), 0 0 1 (peak 2, as 0 0 has), so
+     * then 0 1, 0 1 0, 0 1 1, 0 1 2, 0 1 3 (peak 1, as 0 1 and 0 have), so then 1.
      */
-    private static void openRowsGoOn() {
-        FrameTables x = with(2, 2, 4, 4);
-        Expect.due("offset(25)", x.offset(25), 2);
+    private static void openRowsAreLeft() {
+        int[] peaks = {3, 3, 3, 3, 2, 2, 2, 2, 2, 1, 1};
+        for (int steps = 0; steps < peaks.length; steps++) {
+            FrameTables x = with(2, 4, 20);
+            Expect.due("offset(" + steps + ")", x.offset(steps), peaks[steps]);
+            Expect.due("row", row(x), steps < 4 ? "0 0 0" : steps < 9 ? "0 0 1" : "0 1 3");
+            Expect.due("exact()", x.exact(), steps >= 10);
+        }
+        FrameTables y = with(2, 2, 4, 4);
+        Expect.due("offset(19)", y.offset(19), 2);
+        Expect.due("exact()", y.exact(), false);
+        Expect.due("offset(20)", y.offset(20), 2);
+        Expect.due("exact()", y.exact(), true);
+        Expect.due("row", row(y), "0 0 1 1");
+    }
+
+    /**
+     * Four periods 60: step 8 puts 0 0 1 1 (peak 2, as 0 0 1 and 0 0 have), so step 9 puts 0 1;
+     * step 16 puts 0 1 2 3 (peak 1), so the other 59 steps put the first frame alone.
+     */
+    private static void severalPlacesAreLeftAtOnce() {
+        int[] peaks = {4, 4, 4, 4, 4, 3, 3, 3, 2, 2, 2, 2, 2, 2, 2, 2, 1, 1};
+        for (int steps = 0; steps < peaks.length; steps++) {
+            FrameTables x = with(60, 60, 60, 60);
+            Expect.due("four: offset(" + steps + ")", x.offset(steps), peaks[steps]);
+        }
+        FrameTables x = with(60, 60, 60, 60);
+        Expect.due("four: offset(74)", x.offset(74), 1);
         Expect.due("exact()", x.exact(), false);
-        Expect.due("offset(26)", x.offset(26), 2);
+        Expect.due("four: offset(75)", x.offset(75), 1);
         Expect.due("exact()", x.exact(), true);
-        Expect.due("row", row(x), "0 0 1 1");
+        Expect.due("row", row(x), "0 1 2 3");
     }
 
     private static void leastPeakAndFirstRow() {
@@ -211,7 +237,8 @@ public final class SpreadTest {
                 best = row;
                 return;
             }
-            for (int offset = 0; offset < periods[row.length] && !cut; offset++) {
+            int peak = peakOf(periods, row);
+            for (int offset = 0; offset < periods[row.length] && peak < bestPeak && !cut; offset++) {
                 if (left == 0) {
                     cut = true;
                     return;
